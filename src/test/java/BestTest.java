@@ -16,6 +16,7 @@ public final class BestTest {
             }
         }
         ofSeveralTheLeast();
+        highestMood();
         enoughNone();
         bearsEdges();
         saddest();
@@ -163,6 +164,18 @@ public final class BestTest {
         Due.is("kind(4, 1) of two muffins", x.kind(4, 1), Due.GAY);
     }
 
+    /** House 0 is sadder by one at each of six visits; the gay house behind it buys two while it hears above 4. */
+    private static void highestMood() {
+        MuffinBells x = new MuffinBells();
+        for (int house = 1; house < 8; house++) {
+            x.set(house, 1, 0);
+        }
+        x.turn(1, Due.GAY);
+        x.man(2, 999);
+        x.man(3, 0);
+        Due.is("mood(0, 60) that is highest", x.mood(0, 60), 20);
+    }
+
     private static void enoughNone() {
         MuffinBells x = new MuffinBells();
         for (int house = 0; house < 8; house++) {
@@ -174,7 +187,9 @@ public final class BestTest {
         Due.is("enough(1) in Lent", x.enough(1), 7);
         Due.is("enough(41): 33 times six and one", x.enough(41), 199);
         Due.is("enough(42)", x.enough(42), Due.NONE);
-        Due.is("findings NONE", x.status(3), 2);
+        x.set(1, 2, 50);
+        Due.is("enough(42): 33 times six, one, and one", x.enough(42), Due.NONE);
+        Due.is("findings NONE", x.status(3), 3);
     }
 
     private static void bearsEdges() {

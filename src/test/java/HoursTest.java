@@ -16,6 +16,7 @@ public final class HoursTest {
         onIsAsHours();
         onWrong();
         firstTimes();
+        emptyAtTheEnd();
         firstTimesByOn();
         firstTimesWrong();
         Due.end();
@@ -305,6 +306,19 @@ public final class HoursTest {
         x.man(3, 5);
         Due.is("when(5) now", x.when(5), 0);
         Due.is("findings NONE", x.status(3), 2);
+    }
+
+    /** From hour 1 on, 200 hours have 160 in which he doesn't rest, and a plain house buys one in each. */
+    private static void emptyAtTheEnd() {
+        MuffinBells x = new MuffinBells();
+        for (int house = 0; house < 8; house++) {
+            x.set(house, 2, 999);
+        }
+        x.hours(1);
+        x.man(2, 160);
+        Due.is("empty() at the end", x.empty(), 200);
+        x.man(2, 161);
+        Due.is("empty() behind the end", x.empty(), Due.NONE);
     }
 
     private static void firstTimesByOn() {

@@ -11,6 +11,7 @@ public final class TextTest {
         blanks();
         numbers();
         faults();
+        otherWords();
         faultsChangeNothing();
         bytesThatBeginNothing();
         fullTape();
@@ -179,8 +180,32 @@ public final class TextTest {
         fault("crack 5 back", 8);
         fault("man 1; tray 2; cracks 3", 15);
         fault("man 1; tray 2; crac 3", 15);
+        fault("tray a", 5);
+        fault("crack a", 6);
+        fault("house a", 6);
         fault("man tray 3", 4);
         fault("house tray 3", 6);
+    }
+
+    /** A word with one letter changed, lacking or added is another word. */
+    private static void otherWords() {
+        String[] texts = {"house 1", "gay 1", "grave 1", "choir 1", "waltz 1", "lent 1", "man 1", "tray 1", "crack 1"};
+        for (String text : texts) {
+            int length = text.indexOf(' ');
+            for (int i = 0; i < length; i++) {
+                fault(text.substring(0, i) + "x" + text.substring(i + 1), 0);
+                fault(text.substring(0, i) + text.substring(i + 1), 0);
+                fault(text.substring(0, i) + "x" + text.substring(i), 0);
+            }
+        }
+        String[] behind = {"gay 1 mood 2", "gay 1 pence 2", "man 1 back"};
+        for (String text : behind) {
+            int start = text.indexOf('1') + 2;
+            for (int i = start; i < start + 4; i++) {
+                fault(text.substring(0, i) + "x" + text.substring(i + 1), start);
+                fault(text.substring(0, i) + text.substring(i + 1), start);
+            }
+        }
     }
 
     private static void fault(String text, int place) {
