@@ -25,6 +25,7 @@ public final class EdgesOfBestTest {
         saddestWithin();
         saddestAtTheEnds();
         saddestOfSeveral();
+        weighingChangesNothing();
         Due.end();
     }
 
@@ -314,5 +315,18 @@ public final class EdgesOfBestTest {
         Edge.accepted("saddest(0) of 3 and 6", () -> sad(3, 6), x -> x.saddest(0), 3);
         Edge.accepted("saddest(0) of 7 and 1", () -> sad(7, 1), x -> x.saddest(0), 1);
         Edge.accepted("saddest(200) where all are alike", Edge::alike, x -> x.saddest(200), 0);
+    }
+
+    private static void weighingChangesNothing() {
+        MuffinBells x = Edge.furnished();
+        x.begin(60);
+        x.way(60);
+        x.mood(7, 60);
+        x.kind(7, 60);
+        x.enough(60);
+        x.bears(60, 0);
+        x.swap(60);
+        x.saddest(200);
+        Due.same("weighing changes nothing", Edge.whole(x), Edge.whole(Edge.furnished()));
     }
 }

@@ -200,6 +200,10 @@ public final class EdgesOfTextTest {
         fault("gay 1 moods 5", 6);
         fault("gay 1 pences 5", 6);
         fault("gaygay 1", 0);
+        fault("xray 5", 0);
+        fault("trax 5", 0);
+        fault("gay 1 food 5", 6);
+        fault("man 5 pack", 6);
         stands("tray5;man3back;gay1mood2pence3", 3);
     }
 
