@@ -16,7 +16,6 @@ public final class BestTest {
             }
         }
         ofSeveralTheLeast();
-        highestMood();
         enoughNone();
         bearsEdges();
         saddest();
@@ -162,18 +161,6 @@ public final class BestTest {
         Due.is("kind(4, 1) hearing 6", x.kind(4, 1), Due.WALTZ);
         x.man(2, 2);
         Due.is("kind(4, 1) of two muffins", x.kind(4, 1), Due.GAY);
-    }
-
-    /** House 0 is sadder by one at each of six visits; the gay house behind it buys two while it hears above 4. */
-    private static void highestMood() {
-        MuffinBells x = new MuffinBells();
-        for (int house = 1; house < 8; house++) {
-            x.set(house, 1, 0);
-        }
-        x.turn(1, Due.GAY);
-        x.man(2, 999);
-        x.man(3, 0);
-        Due.is("mood(0, 60) that is highest", x.mood(0, 60), 20);
     }
 
     private static void enoughNone() {

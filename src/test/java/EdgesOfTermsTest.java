@@ -329,7 +329,7 @@ public final class EdgesOfTermsTest {
             Due.is("TAKINGS in hour " + hour, x.hours(62), Math.min(99999, sold));
             calls += 2;
         }
-        Due.is("TAKINGS held", x.now(6), 99999);
+        Due.is("TRAY less by 300 all the same", x.now(3), 699);
         Due.is("takings(60) held", x.takings(60), 99999);
         Due.is("bears(60, 99999) of a full purse", x.bears(60, 99999), 99);
         Due.is("within 512 calls", calls + 3 <= 512 ? 1 : 0, 1);

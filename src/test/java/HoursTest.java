@@ -10,7 +10,6 @@ public final class HoursTest {
         toneAfterMinding();
         waltzInItsHour();
         ateIsHeld();
-        takingsAreHeld();
         hoursByTheSmallActs();
         hoursWrong();
         onIsAsHours();
@@ -115,32 +114,6 @@ public final class HoursTest {
         Due.is("PENCE", x.of(0, 2), 18);
     }
 
-    /**
-     * Lent in all houses buys six each while the bell is whole: sixty hours take 576 pence. A run that fills the purse
-     * takes about as many calls as an object is good for; what this class does behind them is the same.
-     */
-    private static void takingsAreHeld() {
-        MuffinBells x = new MuffinBells();
-        for (int house = 0; house < 8; house++) {
-            x.turn(house, Due.LENT);
-            x.set(house, 1, 0);
-        }
-        x.man(3, 0);
-        int takings = 0;
-        for (int i = 0; i < 175; i++) {
-            x.man(4, 0);
-            x.man(2, 300);
-            for (int house = 0; house < 8 && i % 13 == 0; house++) {
-                x.set(house, 2, 999);
-            }
-            takings = Math.min(99999, takings + 576);
-            Due.is("TAKINGS after " + (i + 1) + " times sixty", x.hours(60), takings);
-        }
-        Due.is("TAKINGS held", x.now(6), 99999);
-        Due.is("TRAY less all the same", x.now(3), 12);
-        Due.is("takings(60) held", x.takings(60), 99999);
-    }
-
     /** What an hour does must be what minds, buys and the tone say of it. */
     private static void hoursByTheSmallActs() {
         for (int seed = 0; seed < TERRACES; seed++) {
@@ -210,24 +183,6 @@ public final class HoursTest {
         Due.same("hours with a finding", Due.state(x), before);
         x.hours(100);
         Due.is("a hundred", x.now(0), 100);
-        lastHour();
-    }
-
-    /** No run of 512 calls comes so far, but what the class does there is the same: HOUR ends at 99999. */
-    private static void lastHour() {
-        MuffinBells x = new MuffinBells();
-        for (int i = 0; i < 999; i++) {
-            x.hours(100);
-        }
-        x.hours(98);
-        String before = Due.state(x);
-        Due.is("hours(2) above the last hour", x.hours(2), Due.STATE);
-        Due.is("hours(101) there", x.hours(101), Due.BEYOND);
-        Due.same("hours with STATE", Due.state(x), before);
-        Due.is("findings STATE", x.status(4), 1);
-        x.hours(1);
-        Due.is("the last hour", x.now(0), 99999);
-        Due.is("hours(1) above the last hour", x.hours(1), Due.STATE);
     }
 
     private static void onIsAsHours() {
